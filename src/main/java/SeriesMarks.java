@@ -26,8 +26,8 @@ public final class SeriesMarks {
     private final Shortening shortening = new Shortening();
     private final int[] weights = new int[MARKS];
     // Two rows for all calls: the one is filled from the other, and neither is made anew.
-    private final NameSet seenNames = new NameSet(MOST_SERIES);
-    private final NameSet workNames = new NameSet(MOST_SAMPLES);
+    private final NameSet seenNames = new NameSet();
+    private final NameSet workNames = new NameSet();
 
     public SeriesMarks() {
     }
@@ -664,14 +664,13 @@ public final class SeriesMarks {
         }
     }
 
-    /** Unlike names, the least first, in a row that is made once and used again. */
+    /**
+     * Unlike names, the least first, in a row that is made once and used again: long enough for a
+     * short name of each sample.
+     */
     private static final class NameSet {
-        private final int[] row;
+        private final int[] row = new int[MOST_SAMPLES];
         private int size;
-
-        NameSet(int most) {
-            row = new int[most];
-        }
 
         void makeEmpty() {
             size = 0;
