@@ -39,6 +39,14 @@ public final class DroppedFoldedTest {
             c.due("chief(2, " + value + ", 0)", x.chief(2, value, 0), due[value]);
             c.due("chief(1, " + value + ", 0)", x.chief(1, value, 0), value);
         }
+        x.pass(1);
+        c.due("fold with what was folded before", x.fold(2, 2, 6), 1);
+        c.due("fold of what was folded before", x.fold(2, 7, 3), 1);
+        c.due("all that were together", x.chief(2, 5, 1), 1);
+        c.due("the new one", x.chief(2, 3, 1), 1);
+        c.due("not before", x.chief(2, 3, 0), 3);
+        x = new SeriesMarks();
+        x.fold(2, 1, 7);
         c.due("fold(2, 3, 3)", x.fold(2, 3, 3), 3);
         c.due("fold(2, 7, 7)", x.fold(2, 7, 7), 1);
         c.due("fold(5, 7, 0)", x.fold(5, 7, 0), 0);

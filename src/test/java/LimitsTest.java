@@ -24,7 +24,8 @@ public final class LimitsTest {
         fill(x);
         c.due("samples of a full one", x.count(2), 2000);
         c.due("series of a full one", x.count(1), 120);
-        c.due("the 2001st sample", x.tell(0, 0), SeriesMarks.FULL);
+        c.due("the 2001st sample", x.tell(0111000, 0), SeriesMarks.FULL);
+        c.due("the 2001st sample, outside", x.tell(0111000, -1), SeriesMarks.OUTSIDE);
         c.due("kept of a full one", x.kept(0, x.count(0)), 120 * 8);
         askAllOfEdges(x);
         c.due("samples after all", x.count(2), 2000);

@@ -8,6 +8,7 @@ public final class PlansTest {
         promise25Plan();
         promise25PlanOfLikeLoss();
         promise25PlanOfNone();
+        promise25PlanOfAllMarks();
         promise26Bill();
         promise27Count();
         c.end();
@@ -109,6 +110,13 @@ public final class PlansTest {
         SeriesMarks x = new SeriesMarks();
         c.due("none seen, none to be left", x.plan(0, 0, 0), 0);
         c.due("none seen", x.plan(120, 0, 0), 0);
+    }
+
+    private static void promise25PlanOfAllMarks() {
+        SeriesMarks x = new SeriesMarks();
+        x.tell(0000000, 0);
+        x.tell(0777777, 0);
+        c.due("names unlike in every mark", x.plan(1, 0, 0), 63);
     }
 
     private static void promise26Bill() {
