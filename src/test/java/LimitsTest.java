@@ -11,6 +11,7 @@ public final class LimitsTest {
     public static void main(String[] args) {
         edgesOnNew();
         edgesOnFull();
+        the2000thSample();
         refusedChangesNothing();
         c.end();
     }
@@ -48,6 +49,29 @@ public final class LimitsTest {
             }
             x.pass(1);
         }
+    }
+
+    /** 2000 samples need more calls than the document grants: told here that the limit is not beside it. */
+    private static void the2000thSample() {
+        SeriesMarks x = new SeriesMarks();
+        for (int i = 0; i < 1999; i++) {
+            x.tell(i % 100, i);
+            if (i % 100 == 99) {
+                x.pass(1);
+            }
+        }
+        c.due("1999 samples", x.count(2), 1999);
+        c.due("the 2000th, of a new series", x.tell(100, 0), 100);
+        c.due("2000 samples", x.count(2), 2000);
+        c.due("the 2001st, of an old series", x.tell(99, 0), SeriesMarks.FULL);
+        c.due("the 2001st, of a new series", x.tell(101, 0), SeriesMarks.FULL);
+        c.due("no series by it", x.count(1), 101);
+        c.due("STATE ahead of FULL", x.tell(100, 0), SeriesMarks.STATE);
+        c.due("OUTSIDE ahead of FULL", x.tell(101, 1000000001), SeriesMarks.OUTSIDE);
+        x.pass(1);
+        c.due("FULL at the next tick too", x.tell(100, 0), SeriesMarks.FULL);
+        c.due("its latest tick is as it was", x.series(100, 4), 19);
+        c.due("samples", x.count(2), 2000);
     }
 
     private static void askAllOfEdges(SeriesMarks x) {
