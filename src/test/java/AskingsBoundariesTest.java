@@ -9,19 +9,27 @@ public final class AskingsBoundariesTest {
         promise17ValueNotLookedAt();
         promise17State();
         promise17Full();
-        promises18To22Unknown();
-        promises18To22NoSpan();
+        promise18Unknown();
+        promise18NoSpan();
         promise18NoKeyOfIt();
         promise18AnotherValueThanWanted();
         promise18OfNoSeries();
         promise18EndsOfASpan();
+        promise19Unknown();
+        promise19NoSpan();
         promise19Empty();
         promise19AsManyAsSeries();
+        promise20Unknown();
+        promise20NoSpan();
         promise20None();
         promise20FirstAndLast();
         promise20TheLeastFirst();
+        promise21Unknown();
+        promise21NoSpan();
         promise21EndsOfASpan();
         promise21PartsByNone();
+        promise22Unknown();
+        promise22NoSpan();
         promise22None();
         promise22TheLeastTick();
         c.end();
@@ -80,7 +88,15 @@ public final class AskingsBoundariesTest {
         c.due("the 11th is not", x.works(10, 0, 0), SeriesMarks.UNKNOWN);
     }
 
-    private static void promises18To22Unknown() {
+    private interface OfAsking {
+        long ask(SeriesMarks x, int asking);
+    }
+
+    private interface OfSpanOf {
+        long ask(SeriesMarks x, int from, int to);
+    }
+
+    private static void refusesNoAsking(String call, OfAsking of) {
         int[] manies = {0, 1, 10};
         for (int many : manies) {
             SeriesMarks x = new SeriesMarks();
@@ -88,31 +104,62 @@ public final class AskingsBoundariesTest {
             for (int i = 0; i < many; i++) {
                 x.ask(0, NONE, 0);
             }
-            String of = " of " + many + " askings";
-            Edges.refuses(c, "answer" + of, 0, many - 1, SeriesMarks.UNKNOWN, i -> x.answer(i, 0, 0, 0));
-            Edges.refuses(c, "keys" + of, 0, many - 1, SeriesMarks.UNKNOWN, i -> x.keys(i, 0, 0));
-            Edges.refuses(c, "key" + of, 0, many - 1, SeriesMarks.UNKNOWN, i -> x.key(i, 0, 0, 0));
-            Edges.refuses(c, "works" + of, 0, many - 1, SeriesMarks.UNKNOWN, i -> x.works(i, 0, 0));
-            Edges.refuses(c, "lacks" + of, 0, many - 1, SeriesMarks.UNKNOWN, i -> x.lacks(i, 0, 0));
-            if (many > 0) {
-                c.due("keys of the last" + of, x.keys(many - 1, 0, 0), 1);
+            String told = call + " with " + many + " askings";
+            Edges.refuses(c, told, 0, many - 1, SeriesMarks.UNKNOWN, i -> of.ask(x, i));
+            for (int i = 0; i < many; i++) {
+                c.holds(told + " is not UNKNOWN of " + i, of.ask(x, i) != SeriesMarks.UNKNOWN);
             }
         }
     }
 
-    private static void promises18To22NoSpan() {
+    private static void refusesNoSpan(String call, OfSpanOf of) {
         int[] ticks = {0, 1, 42, 199};
         for (int tick : ticks) {
             SeriesMarks x = new SeriesMarks();
             x.ask(0, NONE, 0);
             x.pass(tick);
-            String at = " at " + tick;
-            Edges.refusesNoSpan(c, "answer" + at, tick, (from, to) -> x.answer(0, 0, from, to));
-            Edges.refusesNoSpan(c, "keys" + at, tick, (from, to) -> x.keys(0, from, to));
-            Edges.refusesNoSpan(c, "key" + at, tick, (from, to) -> x.key(0, 0, from, to));
-            Edges.refusesNoSpan(c, "works" + at, tick, (from, to) -> x.works(0, from, to));
-            Edges.refusesNoSpan(c, "lacks" + at, tick, (from, to) -> x.lacks(0, from, to));
+            Edges.refusesNoSpan(c, call + " at " + tick, tick, (from, to) -> of.ask(x, from, to));
         }
+    }
+
+    private static void promise18Unknown() {
+        refusesNoAsking("answer", (x, i) -> x.answer(i, 0, 0, 0));
+    }
+
+    private static void promise18NoSpan() {
+        refusesNoSpan("answer", (x, from, to) -> x.answer(0, 0, from, to));
+    }
+
+    private static void promise19Unknown() {
+        refusesNoAsking("keys", (x, i) -> x.keys(i, 0, 0));
+    }
+
+    private static void promise19NoSpan() {
+        refusesNoSpan("keys", (x, from, to) -> x.keys(0, from, to));
+    }
+
+    private static void promise20Unknown() {
+        refusesNoAsking("key", (x, i) -> x.key(i, 0, 0, 0));
+    }
+
+    private static void promise20NoSpan() {
+        refusesNoSpan("key", (x, from, to) -> x.key(0, 0, from, to));
+    }
+
+    private static void promise21Unknown() {
+        refusesNoAsking("works", (x, i) -> x.works(i, 0, 0));
+    }
+
+    private static void promise21NoSpan() {
+        refusesNoSpan("works", (x, from, to) -> x.works(0, from, to));
+    }
+
+    private static void promise22Unknown() {
+        refusesNoAsking("lacks", (x, i) -> x.lacks(i, 0, 0));
+    }
+
+    private static void promise22NoSpan() {
+        refusesNoSpan("lacks", (x, from, to) -> x.lacks(0, from, to));
     }
 
     private static void promise18NoKeyOfIt() {
