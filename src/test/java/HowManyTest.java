@@ -76,6 +76,10 @@ public final class HowManyTest {
         c.due("unlike(63, 0, 2)", x.unlike(63, 0, 2), 1);
         c.due("unlike(63, 1, 1)", x.unlike(63, 1, 1), 0);
         c.due("unlike(2, 0, 0)", x.unlike(2, 0, 0), 2);
+        x.drop(1, true);
+        x.fold(5, 0, 3);
+        c.due("unlike though dropped and folded", x.unlike(0, 0, 2), 4);
+        c.due("unlike of another mark", x.unlike(1, 0, 2), 4);
         c.due("unlike(64, 0, 0)", x.unlike(64, 0, 0), SeriesMarks.OUTSIDE);
         c.due("unlike(-1, 0, 0)", x.unlike(-1, 0, 0), SeriesMarks.OUTSIDE);
     }

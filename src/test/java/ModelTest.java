@@ -13,7 +13,7 @@ public final class ModelTest {
         for (int run = 0; run < RUNS && c.isAllRight(); run++) {
             oneRun(run);
         }
-        for (int kind = 0; kind < Calls.KINDS; kind++) {
+        for (int kind = 0; kind < Calls.KINDS && c.isAllRight(); kind++) {
             c.holds("calls of kind " + kind + " were answered often", answered[kind] >= 500);
             c.holds("calls of kind " + kind + " were refused often", refused[kind] >= 50);
         }

@@ -7,6 +7,8 @@ public final class PlansTest {
         promise24Loss();
         promise25Plan();
         promise25PlanOfLikeLoss();
+        promise25PlanOfGreaterNumberLeavesMore();
+        promise25PlanOfMoreMarks();
         promise25PlanOfNone();
         promise25PlanOfAllMarks();
         promise26Bill();
@@ -104,6 +106,38 @@ public final class PlansTest {
         c.due("less loss, fewer left", x.plan(4, 0, 0), 2);
         x.weigh(false, 1, 1);
         c.due("of like loss, the most left", x.plan(4, 0, 0), 1);
+    }
+
+    /** Mark 0 alone leaves 2, mark 1 alone leaves 3: the plan found first is not the one that is due. */
+    private static void promise25PlanOfGreaterNumberLeavesMore() {
+        SeriesMarks x = new SeriesMarks();
+        x.tell(000, 0);
+        x.tell(001, 0);
+        x.tell(002, 0);
+        x.tell(010, 0);
+        c.due("the greater number leaves more", x.plan(3, 0, 0), 2);
+        c.due("but too many", x.plan(2, 0, 0), 1);
+        x.weigh(false, 0, 3);
+        x.weigh(false, 1, 3);
+        c.due("of like loss that is not 0", x.plan(3, 0, 0), 2);
+        x.weigh(false, 1, 4);
+        c.due("loss goes ahead of what is left", x.plan(3, 0, 0), 1);
+    }
+
+    /** Marks 0 and 1 together leave as many as mark 2 alone, and neither of them alone leaves few enough. */
+    private static void promise25PlanOfMoreMarks() {
+        SeriesMarks x = new SeriesMarks();
+        x.tell(0000, 0);
+        x.tell(0011, 0);
+        x.tell(0100, 0);
+        x.tell(0111, 0);
+        c.due("the least number, though of more marks", x.plan(2, 0, 0), 3);
+        x.weigh(false, 0, 1);
+        x.weigh(false, 1, 1);
+        x.weigh(false, 2, 2);
+        c.due("of like loss again", x.plan(2, 0, 0), 3);
+        x.weigh(false, 2, 1);
+        c.due("one less of loss", x.plan(2, 0, 0), 4);
     }
 
     private static void promise25PlanOfNone() {
